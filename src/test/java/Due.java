@@ -1,0 +1,54 @@
+/** Notes every call whose answer is not the one that is due. */
+final class Due {
+    private int wrong;
+    private int looked;
+
+    void is(String call, long got, long want) {
+        looked++;
+        if (got != want) {
+            tell(call + " answered " + got + ", due is " + want);
+        }
+    }
+
+    void is(String call, boolean got, boolean want) {
+        is(call, got ? 1 : 0, want ? 1 : 0);
+    }
+
+    void isThrown(String call, Class<? extends RuntimeException> want, Runnable made) {
+        looked++;
+        String got = "nothing";
+        try {
+            made.run();
+        } catch (RuntimeException e) {
+            got = e.getClass().getSimpleName();
+        }
+        if (!got.equals(want.getSimpleName())) {
+            tell(call + " threw " + got + ", due is " + want.getSimpleName());
+        }
+    }
+
+    void isTrue(String what, boolean holds) {
+        looked++;
+        if (!holds) {
+            tell(what + " does not hold");
+        }
+    }
+
+    boolean failed() {
+        return wrong > 0;
+    }
+
+    void finish() {
+        System.out.println(wrong == 0 ? looked + " answers are as due" : wrong + " answers are not as due");
+        if (wrong != 0) {
+            System.exit(1);
+        }
+    }
+
+    private void tell(String text) {
+        wrong++;
+        if (wrong <= 50) {
+            System.out.println(text);
+        }
+    }
+}
