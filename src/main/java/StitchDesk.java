@@ -442,7 +442,6 @@ public final class StitchDesk {
 
         private void joinRails() {
             Ring ring = rings[0];
-            ring.clear();
             for (int i = 0; i < rails[0].size; i++) {
                 ring.add(rails[0].xs[i], rails[0].ys[i]);
             }
@@ -1192,7 +1191,6 @@ public final class StitchDesk {
             friendly[all] = ALL_COLOURS;
             for (int done = all - 1; done >= 0; done--) {
                 fewest[done] = MOST_SHAPES;
-                friendly[done] = 0;
                 for (int k = 0; k < total; k++) {
                     if (mayFollow(done, k)) {
                         weigh(done, colours[k], changesAfter(done | (1 << k), colours[k]));

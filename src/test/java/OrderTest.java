@@ -73,18 +73,20 @@ public final class OrderTest {
         dueOrder("one more colour", desk, 2, 1, 3, 0, 2, 4);
     }
 
+    /** Boxes round one from (100, 100) to (110, 110), first those that share a place with it, then those beside. */
     private void meeting() {
-        int[][] mates = {{10, 0, 20, 10}, {10, 10, 20, 20}, {0, 10, 10, 20}, {2, 2, 8, 8}, {11, 0, 20, 10},
-            {0, 11, 10, 20}};
+        int[][] mates = {{110, 100, 120, 110}, {110, 110, 120, 120}, {100, 110, 110, 120}, {90, 110, 100, 120},
+            {90, 100, 100, 110}, {90, 90, 100, 100}, {100, 90, 110, 100}, {110, 90, 120, 100}, {102, 102, 108, 108},
+            {90, 90, 120, 120}, {111, 100, 120, 110}, {100, 111, 110, 120}, {90, 100, 99, 110}, {100, 90, 110, 99}};
         for (int i = 0; i < mates.length; i++) {
             int[] m = mates[i];
             StitchDesk desk = new StitchDesk();
-            tellBox(desk, 1, 0, 0, 10, 10);
+            tellBox(desk, 1, 100, 100, 110, 110);
             tellBox(desk, 2, 300, 300, 310, 310);
             tellBox(desk, 2, m[0], m[1], m[2], m[3]);
             tellBox(desk, 1, 500, 0, 510, 10);
             tellBox(desk, 1, m[0], m[1], m[2], m[3]);
-            if (i < 4) {
+            if (i < 10) {
                 // 0, 2 and 4 stay in this order.
                 dueOrder("a mate that meets, " + i, desk, 2, 0, 1, 2, 3, 4);
             } else {
@@ -191,6 +193,24 @@ public final class OrderTest {
         due.is("at the left", desk.under(10, 20), -1);
         due.is("at the right", desk.under(30, 20), -1);
         due.is("where they cross", desk.under(20, 20), 0);
+        StitchDesk twice = new StitchDesk();
+        Told.satin(twice, 0, 10, new int[] {120, 20, 120, 20}, new int[] {120, 0, 160, 0});
+        Told.satin(twice, 0, 10, new int[] {20, 20, 20, 20}, new int[] {0, 20, 0, 60});
+        due.is("a corner told twice", twice.under(120, 20), 0);
+        due.is("right of a corner told twice", twice.under(121, 20), -1);
+        due.is("another corner told twice", twice.under(20, 20), 1);
+        due.is("below a corner told twice", twice.under(20, 21), -1);
+        StitchDesk full = new StitchDesk();
+        full.begin(0, 1, 4, 0);
+        for (int i = 0; i < 16; i++) {
+            full.rail(0, 10 * i, 0);
+            full.rail(1, 10 * i, 50);
+        }
+        due.is("rails of 16", full.end(), 0);
+        due.is("at their beginning", full.under(0, 25), 0);
+        due.is("in their middle", full.under(75, 25), 0);
+        due.is("at their end", full.under(150, 25), 0);
+        due.is("behind it", full.under(151, 25), -1);
     }
 
     private void underWrong() {

@@ -21,6 +21,8 @@ public final class PathTest {
         test.trimInShape();
         test.stops();
         test.mostRecords();
+        test.mostInAnotherOrder();
+        test.crowded();
         test.pathStays();
         test.records();
         test.bytes();
@@ -200,6 +202,65 @@ public final class PathTest {
         over.load(1, 0);
         over.load(2, 0);
         due.is("decode behind it", over.decode(), 1);
+    }
+
+    /** Colours 0, 1, 0 make two stops and 4001 records; in another order there is one stop less. */
+    private void mostInAnotherOrder() {
+        StitchDesk desk = new StitchDesk();
+        tellLongSatin(desk);
+        Told.outline(desk, 1, new int[] {600, 20, 599, 20, 600, 21});
+        Told.satin(desk, 0, 4, new int[] {600, 30, 508, 30, 600, 30}, new int[] {600, 40, 508, 40, 600, 40});
+        due.is("4001 as told", desk.stitch(), -1);
+        due.is("one change of colour", desk.reorder(), 1);
+        due.is("4000 then", desk.stitch(), 4000);
+        due.is("the stop", desk.stop(0), 3901 + 1 + 93);
+    }
+
+    /** Three holes of 22 edges that one row crosses, and an outside of 22, against the plain desk. */
+    private void crowded() {
+        int[][] rings = {outsideWithTeeth(), band(210), band(330), band(450)};
+        for (int direction = 0; direction < 4; direction++) {
+            StitchDesk desk = new StitchDesk();
+            PlainDesk plain = new PlainDesk();
+            desk.begin(0, 0, 20, direction);
+            plain.begin(0, 0, 20, direction);
+            Told.rings(desk, rings);
+            for (int r = 0; r < 4; r++) {
+                for (int i = 0; i < rings[r].length; i += 2) {
+                    plain.corner(r, rings[r][i], rings[r][i + 1]);
+                }
+            }
+            due.is("crowded: end()", desk.end(), 0);
+            due.is("crowded, plain: end()", plain.end(), 0);
+            due.is("crowded: runs in direction " + direction, desk.shape(0, 8), plain.shape(0, 8));
+            due.is("crowded: stitch()", desk.stitch(), plain.stitch());
+            for (int i = 0; i < plain.count(1); i++) {
+                for (int f = 0; f < 3; f++) {
+                    due.is("crowded: record(" + i + ", " + f + ")", desk.record(i, f), plain.record(i, f));
+                }
+            }
+        }
+    }
+
+    private static int[] outsideWithTeeth() {
+        int[] ring = new int[48];
+        System.arraycopy(new int[] {0, 0, 600, 0, 600, 300, 200, 300}, 0, ring, 0, 8);
+        for (int i = 0; i < 20; i++) {
+            ring[8 + 2 * i] = i == 19 ? 0 : 190 - 10 * i;
+            ring[9 + 2 * i] = i % 2 == 0 ? 50 : 300;
+        }
+        return ring;
+    }
+
+    private static int[] band(int left) {
+        int[] ring = new int[48];
+        for (int i = 0; i < 12; i++) {
+            ring[2 * i] = left + 10 * i;
+            ring[2 * i + 1] = i % 2 == 0 ? 60 : 160;
+            ring[46 - 2 * i] = left + 10 * i;
+            ring[47 - 2 * i] = ring[2 * i + 1] + 30;
+        }
+        return ring;
     }
 
     private void pathStays() {

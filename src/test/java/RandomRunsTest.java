@@ -94,10 +94,11 @@ public final class RandomRunsTest {
         if (fill == 1) {
             tellRails();
         } else {
-            switch (random.nextInt(6)) {
+            switch (random.nextInt(7)) {
                 case 0 -> tellGridRings();
                 case 1 -> tellBoxes();
                 case 2 -> tellComb();
+                case 3 -> tellStairs();
                 default -> tellStars();
             }
         }
@@ -178,6 +179,34 @@ public final class RandomRunsTest {
         }
         for (int i = 10; i >= 0; i--) {
             corner(0, i * pitch + upTo(2), (i % 2 == 0 ? 0 : deep) + 10 + upTo(10));
+        }
+    }
+
+    /** Upright and level edges, many of length one. */
+    private void tellStairs() {
+        int columns = 1 + upTo(8);
+        int[] xs = new int[2 * columns + 2];
+        int[] ys = new int[2 * columns + 2];
+        int x = upTo(30);
+        int y = upTo(30);
+        xs[0] = x;
+        ys[0] = y;
+        int high = 1;
+        for (int k = 0; k < columns; k++) {
+            high = 1 + (high + upTo(3)) % 5;
+            xs[2 * k + 1] = x;
+            ys[2 * k + 1] = y + high;
+            x += 1 + upTo(2);
+            xs[2 * k + 2] = x;
+            ys[2 * k + 2] = y + high;
+        }
+        xs[2 * columns + 1] = x;
+        ys[2 * columns + 1] = y;
+        boolean swapped = random.nextBoolean();
+        boolean backward = random.nextBoolean();
+        for (int i = 0; i < xs.length; i++) {
+            int k = backward ? xs.length - 1 - i : i;
+            corner(0, swapped ? ys[k] : xs[k], swapped ? xs[k] : ys[k]);
         }
     }
 

@@ -23,6 +23,7 @@ public final class ShapeTest {
         test.leastPair();
         test.outside();
         test.within();
+        test.holesThatAreGone();
         test.faultOrder();
         test.faultOfLatest();
         test.shapeNumbers();
@@ -209,6 +210,7 @@ public final class ShapeTest {
 
     private void neighbours() {
         dueCrossed("an edge that turns back", 0, 1, new int[] {0, 0, 40, 0, 20, 0, 20, 30});
+        dueCrossed("an edge of one that turns back", 0, 1, new int[] {0, 0, 1, 0, 0, 0, 0, 5});
         dueCrossed("an edge that turns back further", 0, 1, new int[] {10, 10, 40, 10, 0, 10, 20, 30});
         dueCrossed("the last edge comes along the first", 0, 3, new int[] {0, 0, 40, 0, 50, 30, 60, 0});
         due.is("a corner on a straight line", faultOf(new int[] {0, 0, 20, 0, 40, 0, 20, 30}), 0);
@@ -242,6 +244,19 @@ public final class ShapeTest {
                 Told.box(10, 10, 50, 50)), 4);
         due.is("three holes apart", faultOf(big, Told.box(10, 10, 20, 20), Told.box(30, 10, 40, 20),
                 Told.box(50, 10, 60, 20)), 0);
+    }
+
+    /** A shape that is gone leaves no hole behind for the next one. */
+    private void holesThatAreGone() {
+        StitchDesk desk = new StitchDesk();
+        int[] big = Told.box(0, 0, 100, 100);
+        int[] hole = Told.box(10, 10, 50, 50);
+        due.is("with a hole within", Told.outline(desk, 0, big, hole, Told.box(20, 20, 30, 30)), 4);
+        due.is("without it", Told.outline(desk, 0, big, hole), 0);
+        due.is("runs", desk.shape(0, 8), 2);
+        due.is("with a hole outside", Told.outline(desk, 0, big, new int[] {}, Told.box(200, 20, 230, 30)), 3);
+        due.is("then as satin", Told.satin(desk, 0, 4, new int[] {7, 7, 9, 7}, new int[] {7, 9, 9, 9}), 0);
+        due.is("its box", desk.shape(1, 6), 9);
     }
 
     private void faultOrder() {
@@ -321,6 +336,10 @@ public final class ShapeTest {
         due.is("0 by 10: places", desk.shape(2, 9), 4);
         Told.satin(desk, 0, 10, new int[] {0, 0, 5, 0, 5, 41}, new int[] {20, 0, 20, 5, 30, 9});
         due.is("5 and 41 by 10: places", desk.shape(3, 9), 2 + 10 + 2);
+        Told.satin(desk, 0, 10, new int[] {0, 0, 0, 0}, new int[] {0, 0, 0, 0});
+        for (int what = 4; what < 8; what++) {
+            due.is("at (0, 0): shape(4, " + what + ")", desk.shape(4, what), 0);
+        }
     }
 
     private void count() {
