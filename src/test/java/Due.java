@@ -1,7 +1,17 @@
+import java.util.Arrays;
+
 /** Notes every call whose answer is not the one that is due. */
 final class Due {
     private int wrong;
     private int looked;
+    private int sentences;
+    private String sentence = "";
+
+    /** The next answers are those that this sentence of the document asks for. */
+    void of(String where, String words) {
+        sentences++;
+        sentence = where + " (\"" + words + "\"): ";
+    }
 
     void is(String call, long got, long want) {
         looked++;
@@ -12,6 +22,13 @@ final class Due {
 
     void is(String call, boolean got, boolean want) {
         is(call, got ? 1 : 0, want ? 1 : 0);
+    }
+
+    void isRow(String what, int[] got, int... want) {
+        looked++;
+        if (!Arrays.equals(got, want)) {
+            tell(what + " is " + Arrays.toString(got) + ", due is " + Arrays.toString(want));
+        }
     }
 
     void isThrown(String call, Class<? extends RuntimeException> want, Runnable made) {
@@ -39,7 +56,8 @@ final class Due {
     }
 
     void finish() {
-        System.out.println(wrong == 0 ? looked + " answers are as due" : wrong + " answers are not as due");
+        String of = sentences == 0 ? "" : " of " + sentences + " sentences";
+        System.out.println(wrong == 0 ? looked + " answers" + of + " are as due" : wrong + " answers are not as due");
         if (wrong != 0) {
             System.exit(1);
         }
@@ -48,7 +66,7 @@ final class Due {
     private void tell(String text) {
         wrong++;
         if (wrong <= 50) {
-            System.out.println(text);
+            System.out.println(sentence + text);
         }
     }
 }
