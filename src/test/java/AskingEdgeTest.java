@@ -327,7 +327,8 @@ public final class AskingEdgeTest {
     }
 
     private void fewestChanges() {
-        due.of("Promise 14", "The order becomes one in which the fewest shapes have another colour than the one before");
+        due.of("Promise 14", "The order becomes one in which the fewest shapes have another colour "
+                + "than the one before");
         dueOrder("three colours", apart(1, 2, 1, 3, 2), 2, 0, 2, 1, 4, 3);
         dueOrder("ten of four colours", apart(0, 1, 2, 3, 0, 1, 2, 3, 0, 1), 3, 0, 4, 8, 1, 5, 9, 2, 6, 3, 7);
         dueOrder("ten of eight colours", apart(7, 6, 5, 4, 3, 2, 1, 0, 6, 7), 7, 0, 9, 1, 8, 2, 3, 4, 5, 6, 7);
@@ -358,6 +359,18 @@ public final class AskingEdgeTest {
         Told.outline(chain, 1, Told.box(300, 300, 310, 310));
         dueOrder("each with the next one", chain, 3, 0, 1, 2, 4, 3);
         dueOrder("and again", chain, 3, 0, 1, 2, 4, 3);
+        StitchDesk both = apart(1, 2);
+        Told.outline(both, 2, Told.box(5, 5, 25, 15));
+        Told.outline(both, 1, Told.box(5, 12, 25, 20));
+        // 2 stays behind 0 and 1, and 3 behind 2: behind 1 alone it could go ahead of 0.
+        dueOrder("2 behind 0 and 1", both, 2, 0, 1, 2, 3);
+        StitchDesk twice = new StitchDesk();
+        Told.outline(twice, 1, Told.box(30, 10, 55, 25));
+        Told.outline(twice, 2, Told.box(0, 0, 15, 25));
+        Told.outline(twice, 1, Told.box(20, 10, 45, 15));
+        dueOrder("2 behind 0, free of 1", twice, 1, 0, 2, 1);
+        Told.outline(twice, 1, Told.box(0, 20, 5, 45));
+        dueOrder("3 behind 1", twice, 1, 1, 0, 2, 3);
         StitchDesk edge = apart(1, 2);
         Told.outline(edge, 1, Told.box(30, 10, 40, 20));
         dueOrder("one shared place", edge, 1, 1, 0, 2);
@@ -416,7 +429,13 @@ public final class AskingEdgeTest {
         for (int k = 0; k < 5; k++) {
             due.is("order(" + k + ") as told", desk.order(k), k);
         }
+        desk.stitch();
+        int[] before = Told.records(desk);
         dueOrder("another order", desk, 1, 0, 2, 4, 1, 3);
+        due.isRow("the path is none of it", Told.records(desk), before);
+        for (int n = 0; n < 5; n++) {
+            due.is("shape(" + n + ", 4): the numbers are none of it", desk.shape(n, 4), 20 * n);
+        }
     }
 
     private void noneInOrder() {
@@ -439,7 +458,8 @@ public final class AskingEdgeTest {
     private void threadBehindStops() {
         due.of("Promise 16", "How much thread the stitches (kind 0) have that come behind n stops of the path "
                 + "and ahead of the next");
-        StitchDesk desk = Told.tape(3, 0, 0, 50, 0, 1, 60, 0, 2, 4, 0, 0, 70, 0, 3, 0, 5, 0, 0, 0, 3, 0, 0, 3, -6, 0, 0);
+        StitchDesk desk = Told.tape(3, 0, 0, 50, 0, 1, 60, 0, 2, 4, 0, 0, 70, 0, 3, 0, 5, 0, 0, 0, 3, 0, 0, 3,
+                -6, 0, 0);
         int[] want = {3 + 4, 5, 0, 6, 0};
         for (int n = 0; n < want.length; n++) {
             due.is("thread(" + n + ")", desk.thread(n), want[n]);

@@ -31,6 +31,18 @@ final class Due {
         }
     }
 
+    /** The path is made anew, and has these records, dx, dy and kind one behind the other. */
+    void isPath(String what, StitchDesk desk, int... want) {
+        is(what + ": stitch()", desk.stitch(), want.length / 3);
+        isRow(what, Told.records(desk), want);
+    }
+
+    /** The path is made anew, and leads the needle to these places, x and y one behind the other. */
+    void isWay(String what, StitchDesk desk, int... want) {
+        is(what + ": stitch()", desk.stitch(), want.length / 2);
+        isRow(what, Told.needlePlaces(desk), want);
+    }
+
     void isThrown(String call, Class<? extends RuntimeException> want, Runnable made) {
         looked++;
         String got = "nothing";

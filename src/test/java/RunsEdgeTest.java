@@ -1,4 +1,7 @@
-/** The edges that 'Terms' names of runs, the path and packed records: a test for each sentence. */
+import java.util.ArrayList;
+import java.util.List;
+
+/** The edges that 'Terms' names of runs: a test for each sentence. */
 public final class RunsEdgeTest {
     private static final int[] NO_RING = {};
 
@@ -16,36 +19,12 @@ public final class RunsEdgeTest {
         test.hatchRows();
         test.hatchRowsOfSlants();
         test.parts();
+        test.partsAreThePlacesInTheShape();
         test.partsOfTwo();
+        test.fromFirstToLast();
         test.partsRiseAndFall();
         test.slantsRiseAndFall();
-        test.needleAtFirst();
-        test.stepsOfMove();
-        test.endsOfSteps();
-        test.noSteps();
-        test.leaps();
-        test.leapsInShape();
-        test.order();
-        test.withoutRuns();
-        test.stops();
-        test.betweenRuns();
-        test.trimsAndStopsRest();
-        test.byteOrder();
-        test.digits();
-        test.highBits();
-        test.noDigit();
         test.due.finish();
-    }
-
-    private void duePath(String what, StitchDesk desk, int... want) {
-        due.is(what + ": stitch()", desk.stitch(), want.length / 3);
-        due.isRow(what, Told.records(desk), want);
-    }
-
-    /** Where the needle is behind each record of the path of all shapes. */
-    private void dueNeedle(String what, StitchDesk desk, int... want) {
-        due.is(what + ": stitch()", desk.stitch(), want.length / 2);
-        due.isRow(what, Told.needlePlaces(desk), want);
     }
 
     private void outlineRings() {
@@ -61,7 +40,7 @@ public final class RunsEdgeTest {
         due.is("a shape of three rings", desk.end(), 0);
         due.is("its runs", desk.shape(0, 8), 3);
         due.is("their places", desk.shape(0, 9), 5 + 4 + 4);
-        dueNeedle("ring by ring", desk, 60, 0, 60, 60, 0, 60, 0, 0, 10, 10, 20, 10, 10, 20, 10, 10,
+        due.isWay("ring by ring", desk, 60, 0, 60, 60, 0, 60, 0, 0, 10, 10, 20, 10, 10, 20, 10, 10,
                 30, 30, 40, 30, 30, 40, 30, 30);
     }
 
@@ -71,7 +50,7 @@ public final class RunsEdgeTest {
         Told.satin(desk, 0, 10, new int[] {0, 0, 20, 0, 20, 30}, new int[] {5, 5, 15, 5, 15, 25});
         due.is("one run", desk.shape(0, 8), 1);
         due.is("its places", desk.shape(0, 9), 12);
-        dueNeedle("two edges, the last is none", desk, 5, 5, 10, 0, 10, 5, 20, 0, 15, 5, 20, 10, 15, 11, 20, 20,
+        due.isWay("two edges, the last is none", desk, 5, 5, 10, 0, 10, 5, 20, 0, 15, 5, 20, 10, 15, 11, 20, 20,
                 15, 18, 20, 30, 15, 25);
     }
 
@@ -108,23 +87,24 @@ public final class RunsEdgeTest {
     }
 
     private void satinDown() {
-        due.of("Terms", "rail 0's corner i and k times its edge divided by m, down (in x, in y), then rail 1's likewise");
+        due.of("Terms", "rail 0's corner i and k times its edge divided by m, down (in x, in y), "
+                + "then rail 1's likewise");
         StitchDesk desk = new StitchDesk();
         Told.satin(desk, 0, 10, new int[] {30, 30, 5, 5}, new int[] {0, 50, 20, 75});
-        dueNeedle("edges that fall and rise", desk, 30, 30, 0, 50, 21, 21, 6, 58, 13, 13, 13, 66, 5, 5, 20, 75);
+        due.isWay("edges that fall and rise", desk, 30, 30, 0, 50, 21, 21, 6, 58, 13, 13, 13, 66, 5, 5, 20, 75);
         StitchDesk other = new StitchDesk();
         Told.satin(other, 0, 10, new int[] {0, 50, 20, 75}, new int[] {30, 30, 5, 5});
-        dueNeedle("the rails exchanged", other, 0, 50, 30, 30, 6, 58, 21, 21, 13, 66, 13, 13, 20, 75, 5, 5);
+        due.isWay("the rails exchanged", other, 0, 50, 30, 30, 6, 58, 21, 21, 13, 66, 13, 13, 20, 75, 5, 5);
     }
 
     private void satinEnd() {
         due.of("Terms", "At last both rails' last corners, that of rail 0 first.");
         StitchDesk desk = new StitchDesk();
         Told.satin(desk, 0, 20, new int[] {0, 0, 9, 0}, new int[] {0, 9, 9, 9});
-        dueNeedle("m is 1", desk, 0, 9, 9, 0, 9, 9);
+        due.isWay("m is 1", desk, 0, 9, 9, 0, 9, 9);
         StitchDesk point = new StitchDesk();
         Told.satin(point, 0, 20, new int[] {9, 0, 9, 0}, new int[] {9, 9, 9, 9});
-        dueNeedle("edges of no length", point, 9, 0, 9, 9, 9, 0, 9, 9);
+        due.isWay("edges of no length", point, 9, 0, 9, 9, 9, 0, 9, 9);
     }
 
     private StitchDesk hatched(int spacing, int direction, int[]... rings) {
@@ -137,11 +117,11 @@ public final class RunsEdgeTest {
         due.of("Terms", "let f and p of a place be y and x in direction 0, x and y in 1, x + y and x in 2, "
                 + "y - x and x in 3");
         int[] box = Told.box(2, 3, 32, 23);
-        dueNeedle("direction 0", hatched(10, 0, box), 32, 10, 2, 10, 2, 20, 32, 20);
-        dueNeedle("direction 1", hatched(10, 1, box), 10, 23, 10, 3, 20, 3, 20, 23, 30, 23, 30, 3);
-        dueNeedle("direction 2", hatched(10, 2, box), 7, 3, 2, 8, 2, 18, 17, 3, 27, 3, 7, 23, 17, 23, 32, 8,
+        due.isWay("direction 0", hatched(10, 0, box), 32, 10, 2, 10, 2, 20, 32, 20);
+        due.isWay("direction 1", hatched(10, 1, box), 10, 23, 10, 3, 20, 3, 20, 23, 30, 23, 30, 3);
+        due.isWay("direction 2", hatched(10, 2, box), 7, 3, 2, 8, 2, 18, 17, 3, 27, 3, 7, 23, 17, 23, 32, 8,
                 32, 18, 27, 23);
-        dueNeedle("direction 3", hatched(10, 3, box), 23, 3, 32, 12, 32, 22, 13, 3, 3, 3, 23, 23, 13, 23, 2, 12,
+        due.isWay("direction 3", hatched(10, 3, box), 23, 3, 32, 12, 32, 22, 13, 3, 3, 3, 23, 23, 13, 23, 2, 12,
                 2, 22, 3, 23);
     }
 
@@ -208,6 +188,101 @@ public final class RunsEdgeTest {
         dueRuns("teeth with a place between them", 3, 20, 0, apart);
     }
 
+    /** The runs of hatched shapes with corners on their lines, by asking for every place. */
+    private void partsAreThePlacesInTheShape() {
+        due.of("Terms", "A PART is a greatest row of places, p one by one, that are all in the shape");
+        int[][][] shapes = {
+            {{0, 100, 20, 0, 50, 50, 80, 0, 100, 100}}, {{0, 0, 100, 0, 80, 50, 100, 100, 0, 100}},
+            {{0, 0, 20, 0, 20, 40, 60, 40, 60, 20, 80, 20, 80, 80, 0, 80}},
+            {{0, 80, 80, 80, 80, 20, 60, 20, 60, 40, 20, 40, 20, 0, 0, 0}},
+            {{40, 0, 80, 40, 40, 80, 0, 40}, {40, 20, 60, 40, 40, 60, 20, 40}},
+            {{0, 0, 100, 0, 100, 100, 0, 100}, {20, 20, 40, 20, 30, 40}, {60, 20, 80, 30, 60, 40},
+                {30, 60, 50, 80, 30, 90}},
+            {{0, 40, 40, 0, 60, 20, 30, 50, 40, 60, 70, 30, 90, 50, 50, 90}},
+            {{50, 0, 90, 40, 70, 60, 40, 30, 30, 40, 60, 70, 40, 90, 0, 50}},
+            {{0, 0, 12, 0, 9, 3, 10, 4, 9, 8, 0, 8}}, {{0, 0, 12, 0, 9, 4, 10, 3, 14, 8, 0, 8}},
+            {{2, 0, 12, 0, 13, 1, 9, 5, 10, 6, 9, 7, 12, 10, 1, 10, 3, 8, 2, 7, 3, 6, 0, 2}},
+            {{103, 0, 125, 9, 0, 1}}, {{50, 0, 120, 1, 20, 9}}, {{0, 103, 9, 125, 1, 0}}, {{0, 50, 1, 120, 9, 20}},
+            {{0, 0, 7, 100, 11, 3, 23, 97, 31, 0, 43, 100, 60, 100, 60, 120, 0, 120}}};
+        for (int[][] rings : shapes) {
+            for (int direction = 0; direction < 4; direction++) {
+                for (int spacing : new int[] {4, 5, 7, 11, 20}) {
+                    dueAsAsked(hatched(spacing, direction, rings), spacing, direction);
+                }
+            }
+        }
+    }
+
+    private void dueAsAsked(StitchDesk desk, int spacing, int direction) {
+        List<Integer> want = new ArrayList<>();
+        for (int f = -200 * spacing; f <= 200 * spacing; f += spacing) {
+            List<Integer> row = partsOfRow(desk, f, direction);
+            boolean rising = f / spacing % 2 == 0;
+            for (int k = 0; k < row.size(); k++) {
+                int p = row.get(rising ? k : row.size() - 1 - k);
+                want.add(direction == 1 ? f : p);
+                want.add(yOf(f, p, direction));
+            }
+        }
+        String what = "direction " + direction + ", spacing " + spacing;
+        due.is(what + ": runs", desk.shape(0, 8), want.size() / 4);
+        due.is(what + ": places", desk.shape(0, 9), want.size() / 2);
+        desk.stitch();
+        int[] places = Told.needlePlaces(desk);
+        int found = places.length > 0 && !want.isEmpty() && want.get(0) == 0 && want.get(1) == 0 ? 2 : 0;
+        for (int i = 0; i < places.length && found < want.size(); i += 2) {
+            if (places[i] == want.get(found) && places[i + 1] == want.get(found + 1)) {
+                found += 2;
+            }
+        }
+        due.is(what + ": places that the needle comes to", found, want.size());
+    }
+
+    private static int yOf(int f, int p, int direction) {
+        return switch (direction) {
+            case 0 -> f;
+            case 1 -> p;
+            case 2 -> f - p;
+            default -> f + p;
+        };
+    }
+
+    /** The first and the last p of each part that counts. */
+    private static List<Integer> partsOfRow(StitchDesk desk, int f, int direction) {
+        List<Integer> ends = new ArrayList<>();
+        int first = -1;
+        for (int p = 0; p <= 130; p++) {
+            int x = direction == 1 ? f : p;
+            int y = yOf(f, p, direction);
+            boolean in = x >= 0 && x <= 600 && y >= 0 && y <= 600 && desk.under(x, y) == 0;
+            if (in && first < 0) {
+                first = p;
+            }
+            if (!in && first >= 0) {
+                if (p - first >= 2) {
+                    ends.add(first);
+                    ends.add(p - 1);
+                }
+                first = -1;
+            }
+        }
+        return ends;
+    }
+
+    private void fromFirstToLast() {
+        due.of("Terms", "It is a run from its first to its last place.");
+        for (int wide = 1; wide <= 70; wide += 23) {
+            int right = 10 + wide;
+            due.isWay("a row of " + wide, hatched(20, 0, new int[] {10, 0, right, 0, right, 9, 10, 9}),
+                    10, 0, right, 0);
+            due.isWay("a column of " + wide, hatched(20, 1, new int[] {0, 10, 0, right, 9, right, 9, 10}),
+                    0, 10, 0, right);
+        }
+        StitchDesk desk = hatched(20, 0, Told.box(0, 0, 140, 9));
+        due.is("two places, whatever is between them", desk.shape(0, 9), 2);
+        due.isWay("but steps of 70", desk, 70, 0, 140, 0);
+    }
+
     private void partsOfTwo() {
         due.of("Terms", "it counts if it has two places at least");
         dueRuns("a row of one place", 0, 20, 0, new int[] {5, 20, 9, 30, 1, 30});
@@ -228,331 +303,23 @@ public final class RunsEdgeTest {
         due.of("Terms", "If f divided by the spacing is even, the parts come with rising p, else with falling p, "
                 + "each from its other end.");
         int[] tooth = {0, 0, 60, 0, 60, 40, 40, 40, 40, 10, 30, 20, 20, 10, 20, 40, 0, 40};
-        dueNeedle("parts of rows 0, 1 and 2", hatched(20, 0, tooth), 60, 0, 60, 20, 40, 20, 20, 20, 0, 20,
+        due.isWay("parts of rows 0, 1 and 2", hatched(20, 0, tooth), 60, 0, 60, 20, 40, 20, 20, 20, 0, 20,
                 0, 40, 20, 40, 40, 40, 60, 40);
         int[] turned = {0, 0, 0, 60, 40, 60, 40, 40, 10, 40, 20, 30, 10, 20, 40, 20, 40, 0};
-        dueNeedle("parts of columns 0, 1 and 2", hatched(20, 1, turned), 0, 60, 20, 60, 20, 40, 20, 20, 20, 0,
+        due.isWay("parts of columns 0, 1 and 2", hatched(20, 1, turned), 0, 60, 20, 60, 20, 40, 20, 20, 20, 0,
                 40, 0, 40, 20, 40, 40, 40, 60);
-        dueNeedle("a first row that is odd", hatched(20, 0, Told.box(0, 15, 9, 25)), 9, 20, 0, 20);
-        dueNeedle("a first row that is even", hatched(20, 0, Told.box(0, 35, 9, 45)), 0, 40, 9, 40);
+        due.isWay("a first row that is odd", hatched(20, 0, Told.box(0, 15, 9, 25)), 9, 20, 0, 20);
+        due.isWay("a first row that is even", hatched(20, 0, Told.box(0, 35, 9, 45)), 0, 40, 9, 40);
     }
 
     private void slantsRiseAndFall() {
         due.of("Terms", "If f divided by the spacing is even, the parts come with rising p, else with falling p, "
                 + "each from its other end.");
-        dueNeedle("f -1 by the spacing", hatched(20, 3, Told.box(25, 0, 35, 12)), 32, 12, 25, 5);
-        dueNeedle("f -2 by the spacing", hatched(20, 3, Told.box(42, 0, 50, 9)), 42, 2, 49, 9);
-        dueNeedle("f -3 by the spacing", hatched(20, 3, Told.box(62, 0, 69, 9)), 69, 9, 62, 2);
-        dueNeedle("f 0", hatched(20, 3, Told.box(30, 30, 35, 35)), 30, 30, 35, 35);
-        dueNeedle("f 1 by the spacing", hatched(20, 3, Told.box(0, 22, 9, 30)), 9, 29, 2, 22);
-        dueNeedle("f 3 by the spacing, sums", hatched(20, 2, Told.box(25, 27, 33, 34)), 33, 27, 26, 34);
-    }
-
-    private void needleAtFirst() {
-        due.of("Terms", "The needle is at (0, 0) at first");
-        StitchDesk desk = new StitchDesk();
-        Told.outline(desk, 0, new int[] {10, 5, 30, 5, 30, 25});
-        int[] want = {10, 5, 1, 20, 0, 0, 0, 20, 0, -20, -20, 0};
-        duePath("from (0, 0)", desk, want);
-        duePath("from (0, 0) again", desk, want);
-        Told.loadGroup(desk, 1);
-        due.is("another path", desk.decode(), 1);
-        duePath("from (0, 0) behind another path", desk, want);
-    }
-
-    private void stepsOfMove() {
-        due.of("Terms", "n is the greater of how far it goes in x and in y, divided by 70, up");
-        int[][] cases = {{1, 1}, {69, 1}, {70, 1}, {71, 2}, {140, 2}, {141, 3}, {210, 3}, {211, 4}, {560, 8},
-            {561, 9}, {600, 9}};
-        for (int[] c : cases) {
-            StitchDesk wide = new StitchDesk();
-            Told.outline(wide, 0, new int[] {0, 0, c[0], 0, 0, 1});
-            due.is("steps of " + c[0] + " in x, and back", wide.stitch(), 2 * c[1] + 1);
-            StitchDesk high = new StitchDesk();
-            Told.outline(high, 0, new int[] {0, 0, 0, c[0], 1, 0});
-            due.is("steps of " + c[0] + " in y, and back", high.stitch(), 2 * c[1] + 1);
-            StitchDesk jumped = new StitchDesk();
-            Told.outline(jumped, 0, new int[] {c[0], 0, c[0], 1, c[0] - 1, 0});
-            due.is("jumps of " + c[0], jumped.stitch(), c[1] + (c[0] > 300 ? 1 : 0) + 3);
-        }
-    }
-
-    private void endsOfSteps() {
-        due.of("Terms", "step k of n (1 .. n) ends at the beginning and k times dx, and dy, divided by n, down");
-        StitchDesk rising = new StitchDesk();
-        Told.outline(rising, 0, new int[] {0, 0, 150, 71, 0, 71});
-        duePath("rising steps", rising, 50, 23, 0, 50, 24, 0, 50, 24, 0, -50, 0, 0, -50, 0, 0, -50, 0, 0,
-                0, -36, 0, 0, -35, 0);
-        StitchDesk falling = new StitchDesk();
-        Told.outline(falling, 0, new int[] {0, 0, 0, 71, 150, 71});
-        duePath("falling steps", falling, 0, 35, 0, 0, 36, 0, 50, 0, 0, 50, 0, 0, 50, 0, 0,
-                -50, -24, 0, -50, -24, 0, -50, -23, 0);
-        StitchDesk across = new StitchDesk();
-        Told.outline(across, 0, new int[] {71, 1, 0, 80, 0, 1});
-        duePath("jumps likewise", across, 35, 0, 1, 36, 1, 1, -36, 39, 0, -35, 40, 0, 0, -40, 0, 0, -39, 0,
-                35, 0, 0, 36, 0, 0);
-    }
-
-    private void noSteps() {
-        due.of("Terms", "(By (0, 0) there are no steps.)");
-        StitchDesk desk = new StitchDesk();
-        Told.outline(desk, 0, new int[] {0, 0, 9, 0, 0, 9});
-        duePath("a leap to where the needle is", desk, 9, 0, 0, -9, 9, 0, 0, -9, 0);
-        Told.outline(desk, 0, new int[] {0, 0, 5, 0, 0, 5});
-        duePath("a leap from shape to shape", desk, 9, 0, 0, -9, 9, 0, 0, -9, 0, 5, 0, 0, -5, 5, 0, 0, -5, 0);
-        StitchDesk point = new StitchDesk();
-        Told.satin(point, 0, 10, new int[] {5, 5, 5, 5, 9, 5}, new int[] {5, 5, 5, 5, 9, 5});
-        duePath("stitches from a place to itself", point, 5, 5, 1, 4, 0, 0);
-        StitchDesk nothing = new StitchDesk();
-        Told.satin(nothing, 0, 10, new int[] {0, 0, 0, 0}, new int[] {0, 0, 0, 0});
-        duePath("a whole shape in one place", nothing);
-    }
-
-    /** A small outline at (x, y), then one at (toX, toY): the kinds of the records between them. */
-    private void dueLeap(int x, int y, int toX, int toY, boolean trimmed, int jumps) {
-        StitchDesk desk = new StitchDesk();
-        Told.outline(desk, 0, new int[] {x, y, x + 1, y, x, y + 1});
-        int before = desk.stitch();
-        Told.outline(desk, 0, new int[] {toX, toY, toX + 1, toY, toX, toY + 1});
-        String what = "leap by (" + (toX - x) + ", " + (toY - y) + ")";
-        due.is(what + ": records", desk.stitch(), before + (trimmed ? 1 : 0) + jumps + 3);
-        due.is(what + ": the first kind", desk.record(before, 2), trimmed ? 2 : 1);
-        int[] want = new int[jumps];
-        int[] got = new int[jumps];
-        for (int k = 0; k < jumps; k++) {
-            want[k] = 1;
-            got[k] = desk.record(before + (trimmed ? 1 : 0) + k, 2);
-        }
-        due.isRow(what + ": kinds", got, want);
-    }
-
-    private void leaps() {
-        due.of("Terms", "A LEAP is a move of jumps, behind a trim if it goes further than 300 in x or in y.");
-        for (int other : new int[] {0, 50, -50, 299, -299}) {
-            dueLeap(299, 299, 299 + 300, 299 + other, false, 5);
-            dueLeap(300, 300, 0, 300 + other, false, 5);
-            dueLeap(299, 299, 299 + other, 299 + 300, false, 5);
-            dueLeap(300, 300, 300 + other, 0, false, 5);
-        }
-        dueLeap(299, 299, 599, 599, false, 5);
-        dueLeap(300, 300, 0, 0, false, 5);
-        for (int other : new int[] {0, 50, -50, 298, -298}) {
-            dueLeap(298, 298, 298 + 301, 298 + other, true, 5);
-            dueLeap(301, 301, 0, 301 + other, true, 5);
-            dueLeap(298, 298, 298 + other, 298 + 301, true, 5);
-            dueLeap(301, 301, 301 + other, 0, true, 5);
-        }
-        dueLeap(0, 0, 599, 599, true, 9);
-        dueLeap(599, 599, 0, 0, true, 9);
-    }
-
-    private void leapsInShape() {
-        due.of("Terms", "A LEAP is a move of jumps, behind a trim if it goes further than 300 in x or in y.");
-        int[] near = Told.records(stitched(hatched(20, 0, Told.box(0, 15, 60 + 300, 25), Told.box(20, 18, 320, 22))));
-        int[] far = Told.records(stitched(hatched(20, 0, Told.box(0, 15, 60 + 300, 25), Told.box(20, 18, 321, 22))));
-        // Six jumps behind a trim to (360, 20), one stitch to the hole, then over it.
-        due.is("over 300: records", near.length / 3, 7 + 1 + 5 + 1);
-        due.is("over 300: a jump", near[3 * 8 + 2], 1);
-        due.is("over 301: records", far.length / 3, 7 + 1 + 6 + 1);
-        due.is("over 301: a trim", far[3 * 8 + 2], 2);
-        due.is("over 301: a jump", far[3 * 9 + 2], 1);
-    }
-
-    private static StitchDesk stitched(StitchDesk desk) {
-        desk.stitch();
-        return desk;
-    }
-
-    private void order() {
-        due.of("Terms", "The shapes come in their ORDER (at first as they were told).");
-        StitchDesk desk = new StitchDesk();
-        Told.outline(desk, 1, new int[] {0, 0, 9, 0, 0, 9});
-        Told.outline(desk, 2, new int[] {20, 0, 29, 0, 20, 9});
-        Told.outline(desk, 1, new int[] {40, 0, 49, 0, 40, 9});
-        dueNeedle("as they were told", desk, 9, 0, 0, 9, 0, 0, 0, 0, 20, 0, 29, 0, 20, 9, 20, 0, 20, 0, 40, 0, 49, 0,
-                40, 9, 40, 0);
-        due.is("reorder()", desk.reorder(), 1);
-        dueNeedle("in another order", desk, 9, 0, 0, 9, 0, 0, 40, 0, 49, 0, 40, 9, 40, 0, 40, 0, 20, 0, 29, 0, 20, 9,
-                20, 0);
-    }
-
-    private void withoutRuns() {
-        due.of("Terms", "A shape without runs does nothing.");
-        StitchDesk desk = new StitchDesk();
-        int[] small = {0, 0, 9, 0, 0, 9};
-        Told.hatch(desk, 3, 20, 0, Told.box(401, 401, 409, 409));
-        due.is("no runs", desk.shape(0, 8), 0);
-        duePath("alone", desk);
-        Told.outline(desk, 1, small);
-        duePath("ahead of another", desk, 9, 0, 0, -9, 9, 0, 0, -9, 0);
-        Told.hatch(desk, 3, 20, 0, Told.box(401, 401, 409, 409));
-        duePath("behind another", desk, 9, 0, 0, -9, 9, 0, 0, -9, 0);
-        Told.outline(desk, 1, small);
-        duePath("between two of one colour", desk, 9, 0, 0, -9, 9, 0, 0, -9, 0, 9, 0, 0, -9, 9, 0, 0, -9, 0);
-        Told.hatch(desk, 2, 20, 0, Told.box(401, 401, 409, 409));
-        Told.outline(desk, 2, small);
-        duePath("ahead of its own colour", desk, 9, 0, 0, -9, 9, 0, 0, -9, 0, 9, 0, 0, -9, 9, 0, 0, -9, 0,
-                0, 0, 3, 9, 0, 0, -9, 9, 0, 0, -9, 0);
-    }
-
-    private void stops() {
-        due.of("Terms", "a stop, if the shape with runs before it has another colour");
-        int[] small = {0, 0, 9, 0, 0, 9};
-        StitchDesk desk = new StitchDesk();
-        Told.outline(desk, 7, small);
-        duePath("none ahead of the first", desk, 9, 0, 0, -9, 9, 0, 0, -9, 0);
-        Told.outline(desk, 7, small);
-        duePath("none between two of one colour", desk, 9, 0, 0, -9, 9, 0, 0, -9, 0, 9, 0, 0, -9, 9, 0, 0, -9, 0);
-        StitchDesk back = new StitchDesk();
-        for (int colour : new int[] {0, 7, 0, 1}) {
-            Told.outline(back, colour, small);
-        }
-        due.is("three stops", back.stitch(), 3 * 4 + 3);
-        for (int k = 0; k < 3; k++) {
-            due.is("stop " + k, back.stop(4 * k), 3 + 4 * k);
-        }
-        StitchDesk point = new StitchDesk();
-        Told.satin(point, 0, 10, new int[] {0, 0, 0, 0}, new int[] {0, 0, 0, 0});
-        Told.outline(point, 1, small);
-        duePath("a run without steps is one all the same", point, 0, 0, 3, 9, 0, 0, -9, 9, 0, 0, -9, 0);
-        StitchDesk far = new StitchDesk();
-        Told.outline(far, 0, small);
-        Told.outline(far, 1, new int[] {301, 0, 310, 0, 301, 9});
-        far.stitch();
-        due.is("the stop comes first", far.record(3, 2), 3);
-        due.is("then the trim", far.record(4, 2), 2);
-        due.is("then jumps", far.record(5, 2), 1);
-    }
-
-    private void betweenRuns() {
-        due.of("Terms", "from a run's end to the beginning of the next one of the shape a move of stitches "
-                + "if all ends of its steps are in the shape, else a leap");
-        dueNeedle("over a hole in one step", hatched(20, 0, Told.box(0, 15, 60, 25), Told.box(20, 18, 40, 22)),
-                60, 20, 40, 20, 20, 20, 0, 20);
-        int[] box = Told.box(0, 15, 140, 25);
-        // From (111, 20) to (40, 20): the first step ends at (75, 20).
-        StitchDesk out = hatched(20, 0, box, Told.box(40, 18, 111, 22));
-        duePath("the first of two steps is out", out, 70, 10, 1, 70, 10, 1, -29, 0, 0, -36, 0, 1, -35, 0, 1, -40, 0, 0);
-        StitchDesk in = hatched(20, 0, box, new int[] {40, 18, 111, 18, 111, 22, 76, 22, 75, 20, 74, 22, 40, 22});
-        duePath("the first of two steps is on an edge", in, 70, 10, 1, 70, 10, 1, -29, 0, 0, -36, 0, 0, -35, 0, 0,
-                -40, 0, 0);
-        // The ends are (122, 20) and (81, 20): one is in the shape, one in the hole.
-        int[] wide = Told.box(0, 15, 210, 25);
-        StitchDesk second = hatched(20, 0, wide, new int[] {40, 18, 164, 18, 164, 22, 123, 22, 122, 20, 121, 22, 40, 22});
-        due.is("three steps, the second is out: parts", second.shape(0, 8), 2);
-        second.stitch();
-        due.is("three steps, the second is out: kind", second.record(4, 2), 1);
-        int[] high = {0, 0, 20, 0, 20, 100, 40, 100, 40, 0, 60, 0, 60, 110, 0, 110};
-        StitchDesk bay = hatched(20, 1, high);
-        due.is("over a bay in the direction 1", bay.shape(0, 8), 4);
-        bay.stitch();
-        due.is("columns 20 and 40 lie on edges", bay.count(1), 4 * 2 + 3);
-        dueOfOutline();
-    }
-
-    /** From corner 0 of the outside to corner 0 of the hole, over a bay or not. */
-    private void dueOfOutline() {
-        int[] bay = {50, 0, 60, 0, 60, 100, 10, 100, 10, 70, 55, 70, 55, 10, 50, 10};
-        StitchDesk out = new StitchDesk();
-        due.is("an outline with a bay", Told.outline(out, 0, bay, new int[] {50, 80, 54, 80, 50, 84}), 0);
-        out.stitch();
-        int last = out.count(1) - 1;
-        due.is("over the bay: kind", out.record(last - 3, 2), 1);
-        due.is("over the bay: the first step", out.record(last - 4, 2), 1);
-        StitchDesk in = new StitchDesk();
-        due.is("an outline without", Told.outline(in, 0, Told.box(50, 0, 60, 100), new int[] {54, 80, 56, 80, 54, 84}),
-                0);
-        in.stitch();
-        due.is("in the shape: kind", in.record(in.count(1) - 4, 2), 0);
-        due.is("in the shape: the first step", in.record(in.count(1) - 5, 2), 0);
-    }
-
-    private void trimsAndStopsRest() {
-        due.of("Terms", "Trims and stops have dx and dy 0.");
-        StitchDesk desk = new StitchDesk();
-        Told.outline(desk, 0, new int[] {590, 590, 599, 590, 590, 599});
-        Told.outline(desk, 1, new int[] {0, 0, 9, 0, 0, 9});
-        duePath("a path of them", desk, 0, 0, 2, 65, 65, 1, 66, 66, 1, 65, 65, 1, 66, 66, 1, 65, 65, 1, 66, 66, 1,
-                65, 65, 1, 66, 66, 1, 66, 66, 1, 9, 0, 0, -9, 9, 0, 0, -9, 0,
-                0, 0, 3, 0, 0, 2, -66, -66, 1, -66, -66, 1, -65, -65, 1, -66, -66, 1, -65, -65, 1, -66, -66, 1,
-                -65, -65, 1, -66, -66, 1, -65, -65, 1, 9, 0, 0, -9, 9, 0, 0, -9, 0);
-    }
-
-    private void dueBytes(int dx, int dy, int kind, int... want) {
-        StitchDesk desk = Told.tape(dx, dy, kind);
-        int[] got = {desk.byteAt(0), desk.byteAt(1), desk.byteAt(2)};
-        due.isRow("bytes of (" + dx + ", " + dy + ", " + kind + ")", got, want);
-        due.isRow("the record (" + dx + ", " + dy + ", " + kind + ")", Told.records(desk), dx, dy, kind);
-    }
-
-    private void byteOrder() {
-        due.of("Terms", "its bytes from the highest on: bits 0 to 9 dx, 10 to 19 dy, 20 and 21 its kind");
-        dueBytes(1, 0, 0, 0, 0, 1);
-        dueBytes(0, 1, 0, 0, 4, 0);
-        dueBytes(0, 0, 1, 16, 0, 0);
-        dueBytes(0, 0, 2, 32, 0, 0);
-        dueBytes(0, 0, 3, 48, 0, 0);
-        dueBytes(81, 0, 0, 0, 1, 0);
-        dueBytes(-81, 0, 0, 0, 2, 0);
-        dueBytes(0, 81, 0, 4, 0, 0);
-        dueBytes(0, -81, 0, 8, 0, 0);
-        dueBytes(121, 121, 3, 53, 85, 85);
-        dueBytes(-121, -121, 3, 58, 170, 170);
-        dueBytes(0, 0, 0, 0, 0, 0);
-    }
-
-    private void digits() {
-        due.of("Terms", "A number is five DIGITS of two bits, for 1, 3, 9, 27, 81, the lowest bits for 1: 0 none, "
-                + "1 that much more, 2 that much less");
-        int[] worth = {1, 3, 9, 27, 81};
-        for (int row = 0; row < 243; row++) {
-            int number = 0;
-            int bits = 0;
-            int rest = row;
-            for (int k = 0; k < 5; k++) {
-                int digit = rest % 3;
-                number += digit == 1 ? worth[k] : digit == 2 ? -worth[k] : 0;
-                bits += digit << 2 * k;
-                rest /= 3;
-            }
-            StitchDesk desk = new StitchDesk();
-            Told.loadGroup(desk, bits);
-            Told.loadGroup(desk, bits << 10);
-            due.is("two records", desk.decode(), 2);
-            due.isRow("of " + number, Told.records(desk), number, 0, 0, 0, number, 0);
-            due.is("packed as dx", desk.byteAt(0) << 16 | desk.byteAt(1) << 8 | desk.byteAt(2), bits);
-            due.is("packed as dy", desk.byteAt(3) << 16 | desk.byteAt(4) << 8 | desk.byteAt(5), bits << 10);
-        }
-    }
-
-    private void highBits() {
-        due.of("Terms", "22 and 23 are 0");
-        StitchDesk desk = new StitchDesk();
-        Told.outline(desk, 0, new int[] {590, 590, 599, 590, 590, 599});
-        Told.outline(desk, 1, new int[] {0, 0, 70, 70, 0, 70});
-        desk.stitch();
-        for (int i = 0; i < 3 * desk.count(1); i += 3) {
-            due.is("bits 22 and 23 of byteAt(" + i + ")", desk.byteAt(i) >> 6, 0);
-        }
-        for (int high = 1; high < 4; high++) {
-            StitchDesk read = new StitchDesk();
-            Told.loadGroup(read, high << 22);
-            due.is("decode() of bits " + high + " there", read.decode(), -1);
-        }
-    }
-
-    private void noDigit() {
-        due.of("Terms", "3 is no digit");
-        for (int k = 0; k < 10; k++) {
-            for (int beside = 0; beside < 3; beside++) {
-                int others = 0x55555 * beside & ~(3 << 2 * k);
-                StitchDesk desk = new StitchDesk();
-                Told.loadGroup(desk, 3 << 2 * k | others);
-                due.is("3 as digit " + k + ", " + beside + " beside it", desk.decode(), -1);
-            }
-        }
-        StitchDesk kind = new StitchDesk();
-        Told.loadGroup(kind, 3 << 20);
-        due.is("3 is a kind", kind.decode(), 1);
+        due.isWay("f -1 by the spacing", hatched(20, 3, Told.box(25, 0, 35, 12)), 32, 12, 25, 5);
+        due.isWay("f -2 by the spacing", hatched(20, 3, Told.box(42, 0, 50, 9)), 42, 2, 49, 9);
+        due.isWay("f -3 by the spacing", hatched(20, 3, Told.box(62, 0, 69, 9)), 69, 9, 62, 2);
+        due.isWay("f 0", hatched(20, 3, Told.box(30, 30, 35, 35)), 30, 30, 35, 35);
+        due.isWay("f 1 by the spacing", hatched(20, 3, Told.box(0, 22, 9, 30)), 9, 29, 2, 22);
+        due.isWay("f 3 by the spacing, sums", hatched(20, 2, Told.box(25, 27, 33, 34)), 33, 27, 26, 34);
     }
 }

@@ -31,9 +31,11 @@ public final class TellingEdgeTest {
         test.railOfRings();
         test.railOfNoRail();
         test.railThatIsFull();
+        test.endCloses();
         test.endAsNext();
         test.endAsLastInOrder();
         test.endWithFault();
+        test.nothingStaysOfOneThatIsGone();
         test.endWithNoneOpen();
         test.faultOfLatest();
         test.lesserEdge();
@@ -50,6 +52,7 @@ public final class TellingEdgeTest {
         test.stitchAllShapes();
         test.stitchMost();
         test.stitchTooMany();
+        test.stitchFewerAgain();
         test.lastCall();
         test.due.finish();
     }
@@ -307,6 +310,22 @@ public final class TellingEdgeTest {
         }
     }
 
+    private void endCloses() {
+        due.of("Promise 5", "The shape that is open is closed");
+        StitchDesk desk = new StitchDesk();
+        desk.begin(0, 2, 4, 0);
+        Told.rings(desk, Told.box(0, 0, 9, 9));
+        due.is("open", desk.count(3), 1);
+        desk.end();
+        due.is("closed", desk.count(3), 0);
+        due.isThrown("so no corner goes in", STATE, () -> desk.corner(0, 5, 5));
+        desk.begin(0, 1, 4, 0);
+        due.is("open again", desk.count(3), 1);
+        desk.end();
+        due.is("closed with a fault", desk.count(3), 0);
+        due.isThrown("so no rail goes in", STATE, () -> desk.rail(0, 5, 5));
+    }
+
     private void endAsNext() {
         due.of("Promise 5", "0, it is the next shape (they are numbered from 0 on");
         StitchDesk desk = new StitchDesk();
@@ -358,6 +377,30 @@ public final class TellingEdgeTest {
         due.is("the outside alone", Told.outline(desk, 2, box), 0);
         due.is("the holes are gone too", desk.shape(0, 8), 1);
         due.is("so it is in there", desk.under(25, 25), 0);
+    }
+
+    private void nothingStaysOfOneThatIsGone() {
+        due.of("Promise 5", "or its first fault, and it is gone");
+        StitchDesk desk = new StitchDesk();
+        due.is("rails of 3 and 2", Told.satin(desk, 0, 4, new int[] {1, 1, 9, 1, 9, 5}, new int[] {1, 9, 9, 9}), 1);
+        desk.begin(0, 1, 4, 0);
+        due.is("rail 0 begins anew", desk.rail(0, 50, 50), 1);
+        due.is("rail 1 begins anew", desk.rail(1, 50, 60), 1);
+        desk.rail(0, 54, 50);
+        desk.rail(1, 54, 60);
+        due.is("it is a shape", desk.end(), 0);
+        due.is("of its own places", desk.shape(0, 9), 4);
+        due.is("in its own box", desk.shape(0, 4), 50);
+        due.is("a bow with holes", Told.outline(desk, 0, BOW, Told.box(1, 1, 3, 3), BOW, BOW), 2);
+        desk.begin(0, 2, 4, 0);
+        for (int ring = 3; ring >= 0; ring--) {
+            due.is("ring " + ring + " begins anew", desk.corner(ring, 50, 50), 1);
+        }
+        due.is("they are flat", desk.end(), 1);
+        due.is("as satin", Told.satin(desk, 0, 4, new int[] {70, 70, 72, 70}, new int[] {70, 75, 72, 75}), 0);
+        due.is("its least x", desk.shape(1, 4), 70);
+        due.is("under(50, 50)", desk.under(50, 50), 0);
+        due.is("under(20, 20)", desk.under(20, 20), -1);
     }
 
     private void endWithNoneOpen() {
@@ -639,6 +682,17 @@ public final class TellingEdgeTest {
         due.is("and is there", desk.record(0, 0), 1);
         due.is("until the next", desk.stitch(), -1);
         due.is("and no more", desk.count(1), 0);
+    }
+
+    private void stitchFewerAgain() {
+        due.of("Promise 9", "NONE if there would be more than 4000");
+        StitchDesk desk = longDesk();
+        Told.outline(desk, 1, new int[] {600, 20, 599, 20, 600, 21});
+        Told.satin(desk, 0, 4, new int[] {600, 30, 508, 30, 600, 30}, new int[] {600, 40, 508, 40, 600, 40});
+        due.is("4001 with two stops", desk.stitch(), -1);
+        due.is("one stop is enough", desk.reorder(), 1);
+        due.is("4000 with one stop", desk.stitch(), 4000);
+        due.is("count(1)", desk.count(1), 4000);
     }
 
     private void lastCall() {

@@ -10,6 +10,7 @@ public final class TermsEdgeTest {
         TermsEdgeTest test = new TermsEdgeTest();
         test.places();
         test.placesAtTheEdgesAreKept();
+        test.downAndUp();
         test.closedRing();
         test.numbersOfShape();
         test.ringsOfShape();
@@ -27,13 +28,17 @@ public final class TermsEdgeTest {
         test.neighboursThatMay();
         test.neighboursThatMayNot();
         test.noNeighbours();
+        test.crossedAtEachSide();
         test.outside();
         test.within();
+        test.outsideByCorner0();
+        test.insideNotOnEdges();
         test.insideAtHeightOfCorners();
         test.insideByRightPoints();
         test.inOnEdge();
         test.inOdd();
         test.inSatin();
+        test.inSatinOfNoLength();
         test.box();
         test.boxOfRails();
         test.meet();
@@ -80,6 +85,23 @@ public final class TermsEdgeTest {
             due.is("under(" + place[0] + ", " + place[1] + ")", desk.under(place[0], place[1]), 0);
         }
         due.is("rows at 0, 20 .. 600", desk.shape(0, 8), 31);
+    }
+
+    private void downAndUp() {
+        due.of("Terms", "DOWN is to the next whole number not above, UP to the next one not below.");
+        StitchDesk desk = new StitchDesk();
+        Told.outline(desk, 0, new int[] {71, 0, 0, 0, 71, 9});
+        due.is("71 by 70 is 2, up", desk.stitch(), 2 + 2 + 2 + 1);
+        due.isRow("35.5 down is 35, -35.5 down is -36", Told.records(desk), 35, 0, 1, 36, 0, 1, -36, 0, 0, -35, 0, 0,
+                35, 4, 0, 36, 5, 0, 0, -9, 0);
+        due.is("the root of 1241 is 36, up", desk.thread(0), 36 + 35 + 36 + 37 + 9);
+        StitchDesk satin = new StitchDesk();
+        Told.satin(satin, 0, 20, new int[] {21, 41, 0, 0}, new int[] {50, 50, 50, 50});
+        due.is("41 by 20 is 3, up", satin.shape(0, 9), 2 * 3 + 2);
+        satin.stitch();
+        due.is("-41 by 3 down is -14", satin.needle(3, 1), 41 - 14);
+        due.is("-21 by 3 is -7", satin.needle(3, 0), 21 - 7);
+        due.is("-82 by 3 down is -28", satin.needle(5, 1), 41 - 28);
     }
 
     private void closedRing() {
@@ -384,6 +406,8 @@ public final class TermsEdgeTest {
         due.of("Terms", "if they share nothing else");
         dueCrossed("an edge that turns back", 0, 1, new int[] {0, 0, 40, 0, 20, 0, 20, 30});
         dueCrossed("an edge that turns back by one", 0, 1, new int[] {0, 0, 40, 0, 39, 0, 20, 30});
+        dueCrossed("an edge of length 1 that turns back", 0, 1, new int[] {0, 0, 1, 0, 0, 0, 0, 5});
+        dueCrossed("an upright edge of length 1 that turns back", 0, 1, new int[] {0, 1, 0, 0, 0, 1, 5, 0});
         dueCrossed("an edge that turns back to where it came from", 0, 1, new int[] {0, 0, 40, 0, 0, 0, 20, 30});
         dueCrossed("an edge that turns back further", 0, 1, new int[] {10, 10, 40, 10, 0, 10, 20, 30});
         dueCrossed("an upright edge that turns back", 1, 2, new int[] {40, 20, 0, 0, 0, 50, 0, 20});
@@ -401,6 +425,38 @@ public final class TermsEdgeTest {
                 new int[] {0, 50, 10, 40, 10, 60});
     }
 
+    /** A hole's first edge goes out, or comes in, through each side of the outside, told both ways round. */
+    private void crossedAtEachSide() {
+        due.of("Terms", "2 CROSSED: two of its edges share a point");
+        int[] box = Told.box(100, 100, 200, 200);
+        int[] backward = {100, 100, 100, 200, 200, 200, 200, 100};
+        int[][] holes = {{150, 150, 150, 50, 160, 150}, {150, 150, 250, 150, 150, 160}, {150, 150, 150, 250, 160, 150},
+            {150, 150, 50, 150, 150, 160}};
+        int[] sidesOfBackward = {3, 2, 1, 0};
+        for (int side = 0; side < 4; side++) {
+            int[] out = holes[side];
+            int[] in = {out[2], out[3], out[0], out[1], out[4], out[5]};
+            dueCrossed("out at side " + side, side, 4, box, out);
+            dueCrossed("in at side " + side, side, 4, box, in);
+            dueCrossed("out at side " + side + ", backward", sidesOfBackward[side], 4, backward, out);
+            dueCrossed("in at side " + side + ", backward", sidesOfBackward[side], 4, backward, in);
+        }
+        int[] xs = {0, 40, 40, 0};
+        int[] ys = {0, 40, 0, 40};
+        for (int start = 0; start < 4; start++) {
+            int[] bow = new int[8];
+            int[] turned = new int[8];
+            for (int i = 0; i < 4; i++) {
+                bow[2 * i] = xs[(start + i) % 4];
+                bow[2 * i + 1] = ys[(start + i) % 4];
+                turned[2 * i] = ys[(start + i) % 4];
+                turned[2 * i + 1] = xs[(start + i) % 4];
+            }
+            dueCrossed("a bow from corner " + start, start % 2, 2 + start % 2, bow);
+            dueCrossed("a bow turned, from corner " + start, start % 2, 2 + start % 2, turned);
+        }
+    }
+
     private void outside() {
         due.of("Terms", "3 OUTSIDE: corner 0 of a hole is not inside ring 0.");
         int[] big = Told.box(10, 10, 100, 100);
@@ -416,6 +472,35 @@ public final class TermsEdgeTest {
         int[] bay = {0, 0, 20, 0, 20, 40, 60, 40, 60, 20, 80, 20, 80, 80, 0, 80};
         dueFault("a hole in a bay", 3, bay, new int[] {40, 20, 45, 25, 35, 25});
         dueFault("a hole below a bay", 0, bay, new int[] {40, 50, 45, 60, 35, 60});
+    }
+
+    private void outsideByCorner0() {
+        due.of("Terms", "3 OUTSIDE: corner 0 of a hole is not inside ring 0.");
+        int[] diamond = {100, 0, 200, 100, 100, 200, 0, 100};
+        // (180, 10), of one corner's x and another one's y, is not in the diamond.
+        dueFault("corners 0 and 1 far apart", 0, diamond, new int[] {100, 10, 180, 100, 100, 100});
+        dueFault("corners 1 and 0 far apart", 0, diamond, new int[] {180, 100, 100, 10, 100, 100});
+        dueFault("corners 2 and 0 far apart", 0, diamond, new int[] {180, 100, 100, 100, 100, 10});
+        dueFault("in the diamond's box alone", 3, diamond, new int[] {180, 10, 190, 10, 190, 20});
+        dueFault("in the diamond's box, left", 3, diamond, new int[] {10, 180, 20, 190, 10, 190});
+    }
+
+    private void insideNotOnEdges() {
+        due.of("Terms", "A place is INSIDE a ring if it lies on none of its edges");
+        StitchDesk desk = new StitchDesk();
+        Told.hatch(desk, 0, 4, 0, Told.box(0, 0, 80, 80), Told.box(20, 20, 60, 60));
+        for (int k = 20; k <= 60; k++) {
+            due.is("the hole's upper edge", desk.under(k, 20), 0);
+            due.is("the hole's lower edge", desk.under(k, 60), 0);
+            due.is("the hole's left edge", desk.under(20, k), 0);
+            due.is("the hole's right edge", desk.under(60, k), 0);
+        }
+        for (int k = 21; k <= 59; k++) {
+            due.is("below the upper edge", desk.under(k, 21), -1);
+            due.is("above the lower edge", desk.under(k, 59), -1);
+            due.is("right of the left edge", desk.under(21, k), -1);
+            due.is("left of the right edge", desk.under(59, k), -1);
+        }
     }
 
     private void within() {
@@ -529,6 +614,24 @@ public final class TermsEdgeTest {
         due.is("at its end", flat.under(40, 40), 0);
         due.is("beside it", flat.under(25, 26), -1);
         due.is("behind its end", flat.under(41, 41), -1);
+    }
+
+    /** A rail's edge from a place to itself has that place alone. */
+    private void inSatinOfNoLength() {
+        due.of("Terms", "A place is IN a shape if it lies on an edge of one of its rings");
+        int[][] rails = {{120, 120, 120, 120}, {120, 120, 160, 120}, {120, 120, 120, 160}, {120, 120, 80, 80}};
+        for (int[] other : rails) {
+            StitchDesk desk = new StitchDesk();
+            Told.satin(desk, 0, 10, new int[] {120, 120, 120, 120}, other);
+            due.is("the place itself", desk.under(120, 120), 0);
+            int[][] beside = {{121, 119}, {119, 121}, {120, 119}, {119, 120}};
+            for (int[] place : beside) {
+                due.is("beside it", desk.under(place[0], place[1]), -1);
+            }
+            due.is("right of it", desk.under(121, 120), other[2] > 120 ? 0 : -1);
+            due.is("below it", desk.under(120, 121), other[3] > 120 ? 0 : -1);
+            due.is("left above it", desk.under(119, 119), other[2] < 120 ? 0 : -1);
+        }
     }
 
     private void dueBox(StitchDesk desk, int left, int top, int right, int bottom) {
