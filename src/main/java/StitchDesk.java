@@ -54,8 +54,8 @@ public final class StitchDesk {
         loaded = new int[MOST_BYTES];
         inspector = new Inspector();
         teller = new RunTeller();
-        path = new Path();
-        maker = new PathMaker(path);
+        maker = new PathMaker();
+        path = maker.path;
         planner = new Planner();
     }
 
@@ -307,6 +307,11 @@ public final class StitchDesk {
 
     private static boolean isPlace(int x, int y) {
         return x >= 0 && x <= GREATEST && y >= 0 && y <= GREATEST;
+    }
+
+    /** Where piece k of a way that is cut in so many pieces ends, down. */
+    private static int along(int from, int to, int k, int pieces) {
+        return pieces < 1 ? from : from + Math.floorDiv(k * (to - from), pieces);
     }
 
     private int firstWrongGroup() {
@@ -694,8 +699,8 @@ public final class StitchDesk {
                 int far = Math.max(reach(one, i), reach(two, i));
                 int pieces = Math.max(1, (far + shape.spacing - 1) / shape.spacing);
                 for (int k = 0; k < pieces; k++) {
-                    tellPoint(one, i, k, pieces, taker);
-                    tellPoint(two, i, k, pieces, taker);
+                    taker.take(pointOf(one.xs, i, k, pieces), pointOf(one.ys, i, k, pieces));
+                    taker.take(pointOf(two.xs, i, k, pieces), pointOf(two.ys, i, k, pieces));
                 }
             }
             taker.take(one.xs[corners - 1], one.ys[corners - 1]);
@@ -706,10 +711,8 @@ public final class StitchDesk {
             return Math.max(Math.abs(rail.xs[i + 1] - rail.xs[i]), Math.abs(rail.ys[i + 1] - rail.ys[i]));
         }
 
-        private static void tellPoint(Ring rail, int i, int k, int pieces, RunTaker taker) {
-            int x = rail.xs[i] + Math.floorDiv(k * (rail.xs[i + 1] - rail.xs[i]), pieces);
-            int y = rail.ys[i] + Math.floorDiv(k * (rail.ys[i + 1] - rail.ys[i]), pieces);
-            taker.take(x, y);
+        private static int pointOf(int[] row, int i, int k, int pieces) {
+            return along(row[i], row[i + 1], k, pieces);
         }
 
         private void tellHatch(Shape shape, RunTaker taker) {
@@ -1055,17 +1058,13 @@ public final class StitchDesk {
         private static final int LONGEST_STEP = 70;
         private static final int LONGEST_UNTRIMMED = 300;
 
-        private final Path path;
+        private final Path path = new Path();
         private Shape shape;
         private int x;
         private int y;
         private int threaded;
         private boolean entering;
         private boolean atRunStart;
-
-        private PathMaker(Path path) {
-            this.path = path;
-        }
 
         private void restart() {
             path.clear();
@@ -1120,8 +1119,8 @@ public final class StitchDesk {
             int fromY = y;
             int steps = stepsTo(toX, toY);
             for (int k = 1; k <= steps; k++) {
-                int stepX = fromX + Math.floorDiv(k * (toX - fromX), steps);
-                int stepY = fromY + Math.floorDiv(k * (toY - fromY), steps);
+                int stepX = along(fromX, toX, k, steps);
+                int stepY = along(fromY, toY, k, steps);
                 path.add(stepX - x, stepY - y, kind);
                 x = stepX;
                 y = stepY;
@@ -1131,9 +1130,7 @@ public final class StitchDesk {
         private boolean staysInShape(int toX, int toY) {
             int steps = stepsTo(toX, toY);
             for (int k = 1; k <= steps; k++) {
-                int stepX = x + Math.floorDiv(k * (toX - x), steps);
-                int stepY = y + Math.floorDiv(k * (toY - y), steps);
-                if (!shape.has(stepX, stepY)) {
+                if (!shape.has(along(x, toX, k, steps), along(y, toY, k, steps))) {
                     return false;
                 }
             }

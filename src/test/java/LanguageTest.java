@@ -57,6 +57,7 @@ public final class LanguageTest {
     private static final Set<String> EXCEPTIONS = Set.of("IllegalStateException", "IllegalArgumentException",
             "IndexOutOfBoundsException", "ArithmeticException", "UnsupportedOperationException",
             "NoSuchElementException", "RuntimeException");
+    private static final Set<String> STATIC_TYPES = Set.of("int", "int[]");
     private static final int MOST_LINES = 60;
     private static final int MOST_PARAMETERS = 7;
     private static final int MOST_CLASSES = 12;
@@ -174,6 +175,16 @@ public final class LanguageTest {
                             .contains(javax.lang.model.element.Modifier.STATIC)).count();
             due.isTrue(tree.getSimpleName() + " has at most " + MOST_FIELDS + " fields", fields <= MOST_FIELDS);
             return super.visitClass(tree, none);
+        }
+
+        @Override
+        public Void visitVariable(VariableTree tree, Void none) {
+            Set<javax.lang.model.element.Modifier> flags = tree.getModifiers().getFlags();
+            if (flags.contains(javax.lang.model.element.Modifier.STATIC)) {
+                due.isTrue(tree + " is final", flags.contains(javax.lang.model.element.Modifier.FINAL));
+                due.isTrue(tree + " is a number or a written row", STATIC_TYPES.contains(tree.getType().toString()));
+            }
+            return super.visitVariable(tree, none);
         }
 
         @Override
